@@ -275,6 +275,7 @@ public final class PromisesTest {
             Due.is("trigger: what needs", x.state(i, 1), WAITS);
         }
         Due.is("trigger: an 11th", x.trigger(0, 0), NONE);
+        Due.is("trigger: no 11th", x.verdict(10), NONE);
         for (int i = 0; i < 10; i++) {
             Due.is("trigger: in no group none is cancelled", x.state(i, 0), READY);
         }
