@@ -1,6 +1,9 @@
 import java.util.Random;
 
-/** Long runs of calls, the same ones every time, held call by call against Model. */
+/**
+ * Long runs of calls, the same ones every time, held call by call against Model. The looks between them
+ * go beyond the 512 calls that the document promises for: the class holds no count of its calls.
+ */
 public final class ModelTest {
     private static final int OBJECTS = 1500;
     private static final int CALLS = 512;

@@ -1,16 +1,5 @@
-/** Each promise of the document by itself: ordinary inputs, the edges that it names, and wrong inputs. */
-public final class PromisesTest {
-    private static final int NONE = JobStates.NONE;
-    private static final int[] FAR_OUT = {-2, 1000000, Integer.MIN_VALUE, Integer.MAX_VALUE};
-
-    private static final int WAITS = 0;
-    private static final int READY = 1;
-    private static final int RUNS = 2;
-    private static final int DONE = 3;
-    private static final int FAILED = 4;
-    private static final int SKIPPED = 5;
-    private static final int CANCELLED = 6;
-
+/** Each promise of the document by itself, as it is used; PromisesBoundariesTest has its wrong inputs. */
+public final class PromisesTest extends Given {
     private PromisesTest() {
     }
 
@@ -51,30 +40,6 @@ public final class PromisesTest {
         Due.finish();
     }
 
-    private static JobStates withJobs(int count) {
-        JobStates x = new JobStates();
-        for (int i = 0; i < count; i++) {
-            x.job(0, 0, 0, false, false);
-        }
-        return x;
-    }
-
-    private static JobStates withRunners(JobStates x, int count) {
-        for (int i = 0; i < count; i++) {
-            x.runner(0);
-        }
-        return x;
-    }
-
-    /** One job, triggered once by person 0 in no group, with one runner. */
-    private static JobStates oneOf(int limit, int retries, boolean always, boolean approval) {
-        JobStates x = new JobStates();
-        x.job(0, limit, retries, always, approval);
-        x.runner(0);
-        x.trigger(0, NONE);
-        return x;
-    }
-
     // Promise 1
 
     private static void newObject() {
@@ -104,13 +69,7 @@ public final class PromisesTest {
 
     private static void job() {
         JobStates x = new JobStates();
-        Due.is("job: limit -1", x.job(0, -1, 0, false, false), NONE);
-        Due.is("job: least limit", x.job(0, Integer.MIN_VALUE, 0, false, false), NONE);
-        Due.is("job: retries -1", x.job(0, 0, -1, false, false), NONE);
-        Due.is("job: retries 4", x.job(0, 0, 4, false, false), NONE);
-        Due.is("job: retries far out", x.job(0, 0, Integer.MAX_VALUE, false, false), NONE);
-        Due.is("job: retries 3", x.job(-1, Integer.MAX_VALUE, 3, true, true), 0);
-        for (int i = 1; i < 12; i++) {
+        for (int i = 0; i < 12; i++) {
             Due.is("job: number", x.job(i, i, i % 4, false, false), i);
         }
         Due.is("job: a 13th", x.job(0, 0, 0, false, false), NONE);
@@ -152,12 +111,6 @@ public final class PromisesTest {
         Due.is("needs: itself", x.needs(1, 1), false);
         Due.is("needs: a later one", x.needs(1, 2), false);
         Due.is("needs: job that isn't there", x.needs(3, 0), false);
-        Due.is("needs: earlier -1", x.needs(1, -1), false);
-        Due.is("needs: job -1", x.needs(-1, -2), false);
-        for (int far : FAR_OUT) {
-            Due.is("needs: job far out", x.needs(far, 0), false);
-            Due.is("needs: earlier far out", x.needs(1, far), false);
-        }
         Due.is("needs: first", x.needs(2, 0), true);
         Due.is("needs: already", x.needs(2, 0), false);
         Due.is("needs: another", x.needs(2, 1), true);
@@ -227,9 +180,6 @@ public final class PromisesTest {
         Due.is("lost: 0", x.lost(0), false);
         Due.is("lost: -1", x.lost(-1), false);
         Due.is("lost: 101", x.lost(101), false);
-        for (int far : FAR_OUT) {
-            Due.is("lost: far out", x.lost(far), false);
-        }
         Due.is("lost: at first 10, held", ticksUntilLost(NONE), 11);
         Due.is("lost: wrong one changes nothing", ticksUntilLost(101), 11);
         Due.is("lost: 1", ticksUntilLost(1), 2);
@@ -260,14 +210,6 @@ public final class PromisesTest {
     private static void trigger() {
         JobStates x = withJobs(2);
         x.needs(1, 0);
-        Due.is("trigger: person -1", x.trigger(-1, 0), NONE);
-        Due.is("trigger: person 8", x.trigger(8, 0), NONE);
-        Due.is("trigger: group -2", x.trigger(0, -2), NONE);
-        Due.is("trigger: group 4", x.trigger(0, 4), NONE);
-        for (int far : FAR_OUT) {
-            Due.is("trigger: person far out", x.trigger(far, 0), NONE);
-            Due.is("trigger: group far out", x.trigger(0, far), NONE);
-        }
         Due.is("trigger: refused ones are no runs", x.verdict(0), NONE);
         for (int i = 0; i < 10; i++) {
             Due.is("trigger: number", x.trigger(i % 8, NONE), i);
@@ -323,17 +265,6 @@ public final class PromisesTest {
         x.job(0, 0, 0, false, true);
         x.job(0, 0, 0, false, false);
         x.trigger(3, NONE);
-        Due.is("approve: run -1", x.approve(-1, 0, 1), -1);
-        Due.is("approve: run 1", x.approve(1, 0, 1), -1);
-        Due.is("approve: job -1", x.approve(0, -1, 1), -1);
-        Due.is("approve: job 2", x.approve(0, 2, 1), -1);
-        Due.is("approve: person -1", x.approve(0, 0, -1), -1);
-        Due.is("approve: person 8", x.approve(0, 0, 8), -1);
-        for (int far : FAR_OUT) {
-            Due.is("approve: run far out", x.approve(far, 0, 1), -1);
-            Due.is("approve: job far out", x.approve(0, far, 1), -1);
-            Due.is("approve: person far out", x.approve(0, 0, far), -1);
-        }
         Due.is("approve: not wanted", x.approve(0, 1, 1), -1);
         Due.is("approve: not wanted, own run", x.approve(0, 1, 3), -1);
         Due.is("approve: own run", x.approve(0, 0, 3), -2);
@@ -397,11 +328,6 @@ public final class PromisesTest {
         Due.is("take: no run", x.take(0), NONE);
         x.trigger(0, NONE);
         x.trigger(0, NONE);
-        Due.is("take: runner -1", x.take(-1), NONE);
-        Due.is("take: runner 1", x.take(1), NONE);
-        for (int far : FAR_OUT) {
-            Due.is("take: runner far out", x.take(far), NONE);
-        }
         Due.is("take: lesser run, lesser job", x.take(0), 0);
         Due.is("take: it runs", x.state(0, 0), RUNS);
         Due.is("take: has one", x.take(0), NONE);
@@ -456,11 +382,6 @@ public final class PromisesTest {
         JobStates x = oneOf(0, 0, false, false);
         Due.is("beat: has no job", x.beat(0), false);
         x.take(0);
-        Due.is("beat: runner -1", x.beat(-1), false);
-        Due.is("beat: runner 1", x.beat(1), false);
-        for (int far : FAR_OUT) {
-            Due.is("beat: runner far out", x.beat(far), false);
-        }
         x.tick(10);
         Due.is("beat", x.beat(0), true);
         x.tick(10);
@@ -481,11 +402,6 @@ public final class PromisesTest {
         Due.is("end: has no job", x.end(0, true, 3), false);
         Due.is("end: nothing was done", x.state(0, 0), READY);
         x.take(0);
-        Due.is("end: runner -1", x.end(-1, true, 3), false);
-        Due.is("end: runner 2", x.end(2, true, 3), false);
-        for (int far : FAR_OUT) {
-            Due.is("end: runner far out", x.end(far, true, 3), false);
-        }
         Due.is("end: another runner", x.end(1, true, 3), false);
         Due.is("end: still runs", x.state(0, 0), RUNS);
         Due.is("end: well", x.end(0, true, 3), true);
@@ -531,9 +447,6 @@ public final class PromisesTest {
         JobStates x = new JobStates();
         Due.is("tick: -1", x.tick(-1), NONE);
         Due.is("tick: 1001", x.tick(1001), NONE);
-        for (int far : FAR_OUT) {
-            Due.is("tick: far out", x.tick(far), NONE);
-        }
         Due.is("tick: wrong ones change nothing", x.tick(0), 0);
         Due.is("tick: 1", x.tick(1), 1);
         Due.is("tick: 1000", x.tick(1000), 1001);
@@ -637,11 +550,6 @@ public final class PromisesTest {
         JobStates x = withRunners(withJobs(4), 2);
         x.needs(3, 2);
         x.trigger(0, 1);
-        Due.is("cancel: run -1", x.cancel(-1), false);
-        Due.is("cancel: run 1", x.cancel(1), false);
-        for (int far : FAR_OUT) {
-            Due.is("cancel: run far out", x.cancel(far), false);
-        }
         x.take(0);
         x.end(0, true, 4);
         x.take(0);
@@ -705,11 +613,6 @@ public final class PromisesTest {
         x.needs(2, 1);
         x.needs(3, 2);
         x.trigger(0, NONE);
-        Due.is("again: run -1", x.again(-1), NONE);
-        Due.is("again: run 1", x.again(1), NONE);
-        for (int far : FAR_OUT) {
-            Due.is("again: run far out", x.again(far), NONE);
-        }
         Due.is("again: not over", x.again(0), NONE);
         x.take(0);
         x.end(0, true, 6);
@@ -798,14 +701,6 @@ public final class PromisesTest {
         x.needs(2, 1);
         x.runner(0);
         x.trigger(0, NONE);
-        Due.is("state: run -1", x.state(-1, 0), NONE);
-        Due.is("state: run 1", x.state(1, 0), NONE);
-        Due.is("state: job -1", x.state(0, -1), NONE);
-        Due.is("state: job 3", x.state(0, 3), NONE);
-        for (int far : FAR_OUT) {
-            Due.is("state: run far out", x.state(far, 0), NONE);
-            Due.is("state: job far out", x.state(0, far), NONE);
-        }
         Due.is("state: waits", x.state(0, 1), 0);
         Due.is("state: ready", x.state(0, 0), 1);
         x.take(0);
@@ -849,19 +744,6 @@ public final class PromisesTest {
         withRunners(x, 2);
         x.trigger(0, NONE);
         x.trigger(1, NONE);
-        for (int what = 0; what <= 5; what++) {
-            Due.is("about: run -1", x.about(-1, 0, what), NONE);
-            Due.is("about: run 2", x.about(2, 0, what), NONE);
-            Due.is("about: job -1", x.about(0, -1, what), NONE);
-            Due.is("about: job 1", x.about(0, 1, what), NONE);
-            for (int far : FAR_OUT) {
-                Due.is("about: run far out", x.about(far, 0, what), NONE);
-                Due.is("about: job far out", x.about(0, far, what), NONE);
-                Due.is("about: another what", x.about(0, 0, far), 0);
-            }
-        }
-        Due.is("about: what -1", x.about(0, 0, -1), 0);
-        Due.is("about: what 5", x.about(0, 0, 5), 0);
         Due.is("about: no runner yet", x.about(0, 0, 0), NONE);
         Due.is("about: no tries yet", x.about(0, 0, 1), 0);
         Due.is("about: not lost yet", x.about(0, 0, 2), 0);
@@ -906,11 +788,6 @@ public final class PromisesTest {
     private static void verdict() {
         JobStates x = withRunners(withJobs(2), 1);
         x.trigger(0, NONE);
-        Due.is("verdict: run -1", x.verdict(-1), NONE);
-        Due.is("verdict: run 1", x.verdict(1), NONE);
-        for (int far : FAR_OUT) {
-            Due.is("verdict: run far out", x.verdict(far), NONE);
-        }
         Due.is("verdict: not begun", x.verdict(0), 0);
         x.take(0);
         x.end(0, false, 0);
@@ -942,11 +819,6 @@ public final class PromisesTest {
         withRunners(x, 2);
         x.trigger(0, NONE);
         x.trigger(1, NONE);
-        Due.is("has: runner -1", x.has(-1), NONE);
-        Due.is("has: runner 2", x.has(2), NONE);
-        for (int far : FAR_OUT) {
-            Due.is("has: runner far out", x.has(far), NONE);
-        }
         Due.is("has: nothing yet", x.has(0), NONE);
         x.take(0);
         x.take(1);
